@@ -45,7 +45,6 @@ public final class PaintEditor {
     private final Keyboard keyboard;
     private final Editor editor;
     private final Screen screen;
-    private final Terminal display;
     private final Painter painter;
 
     public PaintEditor(int columns, int rows) {
@@ -54,8 +53,7 @@ public final class PaintEditor {
         keyboard = new Keyboard();
         editor = new Editor(width);
         screen = new Screen(width, height);
-        display = new Terminal(width, height);
-        painter = new Painter(display);
+        painter = new Painter(width, height);
     }
 
     public int type(long bytes, int n) {
@@ -82,7 +80,7 @@ public final class PaintEditor {
         editor.columns = columns;
         editor.fullDrawingDue = true;
         screen.grid.resize(columns, rows);
-        display.resize(columns, rows);
+        painter.display.resize(columns, rows);
         return true;
     }
 
@@ -116,14 +114,15 @@ public final class PaintEditor {
     }
 
     public int cell(int row, int column) {
-        return display.grid.clusterAt(row, column);
+        return painter.display.grid.clusterAt(row, column);
     }
 
     public int look(int row, int column) {
-        return display.grid.lookAt(row, column);
+        return painter.display.grid.lookAt(row, column);
     }
 
     public int terminal(int what) {
+        Terminal display = painter.display;
         switch (what) {
             case 0: return display.row;
             case 1: return display.column;
@@ -873,12 +872,12 @@ public final class PaintEditor {
     private static final class Painter {
         private static final int LONGEST_BLANKS_SENT = 3;
 
-        private final Terminal display;
+        final Terminal display;
         private final int[] bytes = new int[MOST_BYTES_SENT];
         int count;
 
-        Painter(Terminal display) {
-            this.display = display;
+        Painter(int columns, int rows) {
+            display = new Terminal(columns, rows);
         }
 
         int byteAt(int k) {
