@@ -9,7 +9,7 @@ public final class ModelTest {
     };
     private static final String[] CHARACTERS = {
         "a", "b", " ", "~", "\u00e9", "\u00a0", "\u4e2d", "\ud55c", "\uff01", "\uff60", "\uffff", "\u2e80", "\u2e7f",
-        "\u0300", "\u0301", "\u036f", "\u0370", "\u02ff", "\t", "\r", "\r\n", "\ufffd", "   "
+        "\u0300", "\u0301", "\u036f", "\u0370", "\u02ff", "\t", "\r", "\r\n", "\ufffd", "   ", "\u1000", "\uf000"
     };
     private static final String[] RARE = {
         Sitting.PASTE, Sitting.PASTED, Sitting.REDRAW, "\n", "\033", "\033[", "\033[2", "\033[5A", "\033[99999999999~",

@@ -29,10 +29,10 @@ public final class SentTest {
     }
 
     private static void bytesOfCharacters() {
-        Sitting s = new Sitting(8, 2);
-        s.type("~\u00a0\u07ff\u0800\uffff\u4e2d");
+        Sitting s = new Sitting(10, 2);
+        s.type("~\u00a0\u07ff\u0800\uffff\u4e2d\u1000");
         s.x.draw();
-        int[] due = {126, 194, 160, 223, 191, 224, 160, 128, 239, 191, 191, 228, 184, 173};
+        int[] due = {126, 194, 160, 223, 191, 224, 160, 128, 239, 191, 191, 228, 184, 173, 225, 128, 128};
         for (int k = 0; k < due.length; k++) {
             Check.due("byte " + k, s.x.sent(8 + k), due[k]);
         }

@@ -43,6 +43,8 @@ public final class TypeTest {
         typed("a first byte breaks a character", "\ufffd\u00a2", 226, 194, 162);
         typed("27 breaks a character", "\ufffd", 226, 27);
         typed("127 breaks a character, and is a key", "", 226, 127);
+        typed("127 as a third byte", "a", 'a', 226, 130, 127);
+        typed("192 as a third byte", "\ufffd\ufffd", 226, 130, 192);
         typed("192 breaks a character", "\ufffd\ufffd", 194, 192);
         typed("other bytes from 128 on", "\ufffd\ufffd\ufffd\ufffd\ufffd\ufffd", 128, 191, 192, 193, 240, 255);
         typed("bytes that are nothing", "", 1, 2, 3, 4, 5, 6, 7, 10, 11, 14, 15, 16, 17, 18, 19, 20, 21, 22, 24);
@@ -298,8 +300,8 @@ public final class TypeTest {
         Sitting s = new Sitting(8, 3);
         s.type("abc" + Sitting.DOWN);
         Check.due("the GOAL is there without a row", s.x.state(4), 4);
-        String[] ending = {Sitting.LEFT, Sitting.RIGHT, Sitting.HOME, Sitting.END, Sitting.DELETE, Sitting.RUBOUT, "\010",
-            Sitting.MARK, "\033\033", Sitting.CUT, Sitting.YANK, Sitting.UNDO, Sitting.REDRAW, "x", "\t", "\r",
+        String[] ending = {Sitting.LEFT, Sitting.RIGHT, Sitting.HOME, Sitting.END, Sitting.DELETE, Sitting.RUBOUT,
+            "\010", Sitting.MARK, "\033\033", Sitting.CUT, Sitting.YANK, Sitting.UNDO, Sitting.REDRAW, "x", "\t", "\r",
             Sitting.PASTE, Sitting.PASTED, Sitting.PASTED, "\u4e2d", "\ufffd"};
         for (int i = 0; i < ending.length; i++) {
             s.x.tick();
