@@ -561,7 +561,7 @@ public final class PaintEditor {
 
         private static boolean worksOtherwise(int key) {
             switch (key) {
-                case 0: case 8: case TAB: case 12: case RETURN: case 23: case 25: case 26: case ESC:
+                case 0: case 8: case TAB: case END_OF_LINE: case 12: case RETURN: case 23: case 25: case 26: case ESC:
                     return true;
                 default:
                     return key >= BLANK;
@@ -571,7 +571,13 @@ public final class PaintEditor {
         private void command(int key) {
             switch (key) {
                 case TAB: insertOne(TAB); break;
-                case END_OF_LINE: case RETURN: insertOne(END_OF_LINE); break;
+                case RETURN: insertOne(END_OF_LINE); break;
+                case END_OF_LINE:
+                    // A key at any time, since it is named, but one that does something only to a text pasted.
+                    if (pasting) {
+                        insertOne(END_OF_LINE);
+                    }
+                    break;
                 case 8: case RUBOUT: removeBetween(text.beginningAhead(cursor), cursor); break;
                 case DELETE: removeBetween(cursor, text.beginningFrom(cursor + 1)); break;
                 case LEFT: cursor = text.beginningAhead(cursor); break;

@@ -191,7 +191,7 @@ final class Model {
             if (!character && k != 13 && k != 9 && k != 10 && k != PASTED) {
                 return;
             }
-        } else if (!character && List.of(0, 8, 9, 12, 13, 23, 25, 26, 127, UP, DOWN, RIGHT, LEFT, HOME, END, DELETE,
+        } else if (!character && List.of(0, 8, 9, 10, 12, 13, 23, 25, 26, 127, UP, DOWN, RIGHT, LEFT, HOME, END, DELETE,
                 PASTE, PASTED, ESC).indexOf(k) < 0) {
             return;
         }
@@ -202,7 +202,7 @@ final class Model {
         goal = -1;
         if (character || k == 9) {
             replace(cursor, cursor, List.of(k), cursor + 1);
-        } else if (k == 13 || k == 10) {
+        } else if (k == 13 || k == 10 && pasting) {
             replace(cursor, cursor, List.of(10), cursor + 1);
         } else if (k == 127 || k == 8) {
             int from = before(cursor);

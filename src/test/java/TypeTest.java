@@ -302,7 +302,7 @@ public final class TypeTest {
         Check.due("the GOAL is there without a row", s.x.state(4), 4);
         String[] ending = {Sitting.LEFT, Sitting.RIGHT, Sitting.HOME, Sitting.END, Sitting.DELETE, Sitting.RUBOUT,
             "\010", Sitting.MARK, "\033\033", Sitting.CUT, Sitting.YANK, Sitting.UNDO, Sitting.REDRAW, "x", "\t", "\r",
-            Sitting.PASTE, Sitting.PASTED, Sitting.PASTED, "\u4e2d", "\ufffd"};
+            "\n", Sitting.PASTE, Sitting.PASTED, Sitting.PASTED, "\u4e2d", "\ufffd"};
         for (int i = 0; i < ending.length; i++) {
             s.x.tick();
             s.type(Sitting.UP);
@@ -312,7 +312,7 @@ public final class TypeTest {
         }
         s.type(Sitting.UP);
         int due = s.x.state(4);
-        s.type("\001\002\037\n\033[Z\033[5~\u0085\033[");
+        s.type("\001\002\037\033[Z\033[5~\u0085\033[");
         s.x.tick();
         Check.due("bytes that are no keys leave it", s.x.state(4), due);
         s.x.draw();
