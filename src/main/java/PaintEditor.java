@@ -812,7 +812,6 @@ public final class PaintEditor {
             if (atMargin) {
                 row = Math.min(row + 1, grid.rows - 1);
                 column = 0;
-                atMargin = false;
             }
             boolean fits = column + Codes.widthOf(code) <= grid.columns;
             writeCells(fits ? code : BLANK);

@@ -91,6 +91,21 @@ public final class DrawingEdgesTest {
         }
     }
 
+    /** The n of ESC [ n C is told from the place, which need not be column 0. */
+    private static void fartherRightFrom() {
+        for (int from = 0; from <= 4; from++) {
+            for (int n = 1; n <= 12; n++) {
+                String typed = "a".repeat(from + n) + Sitting.HOME + Sitting.RIGHT.repeat(from);
+                String due = (n == 1 ? "^[C" : "^[" + n + "C") + "^[0mx^[3;";
+                begins(n + " farther right than " + from, sentFor(24, typed, Sitting.END + "x"), due);
+            }
+        }
+        String another = Sitting.HOME + Sitting.DELETE + "x" + Sitting.END;
+        Check.due("the cursor at the place", sentFor(8, "a", another), "\r^[0mx");
+        Check.due("the cursor 1 farther right", sentFor(8, "ab", another), "\r^[0mx^[C");
+        Check.due("the cursor 2 farther right", sentFor(8, "abc", another), "\r^[0mx^[2C");
+    }
+
     /** "column 0 of the same row: 13" */
     private static void columnZero() {
         Check.due("from column 0", sentFor(8, "", "x"), "^[0mx^[3;3H^[0;7m2*^[1;2H");
@@ -216,20 +231,22 @@ public final class DrawingEdgesTest {
 
     /** "If A is the second cell of a wide one, it is 1 less (from there on)." No drawing finds such a terminal. */
     private static void secondCellFirst() {
-        Inside painter = Inside.make("Painter", 6, 2);
-        Inside shown = painter.part("display").part("grid");
-        Inside wanted = Inside.make("Grid", 6, 2);
-        wanted.call("put", 0, 0, (int) 'a', 0);
-        wanted.call("put", 0, 1, 0x4e2d, 0);
-        wanted.call("put", 0, 2, 0, 0);
-        shown.call("put", 0, 0, (int) 'a', 0);
-        shown.call("put", 0, 1, 0x4e2d, 0);
-        painter.call("paintRow", wanted, 0);
-        int[] due = {27, '[', 'C', 228, 184, 173, -1};
-        for (int k = 0; k < due.length; k++) {
-            Check.due("byte " + k, (Integer) painter.call("byteAt", k), due[k]);
+        for (int column = 0; column <= 2; column++) {
+            Inside painter = Inside.make("Painter", 6, 2);
+            Inside shown = painter.part("display").part("grid");
+            Inside wanted = Inside.make("Grid", 6, 2);
+            wanted.call("put", 0, column, 0x4e2d, 0);
+            wanted.call("put", 0, column + 1, 0, 0);
+            shown.call("put", 0, column, 0x4e2d, 0);
+            painter.call("paintRow", wanted, 0);
+            StringBuilder sent = new StringBuilder();
+            for (int k = 0; k < painter.number("count"); k++) {
+                sent.append(' ').append(painter.call("byteAt", k));
+            }
+            String ahead = new String[] {"", " 27 91 67", " 27 91 50 67"}[column];
+            Check.due("a wide one at " + column, sent.toString(), ahead + " 228 184 173");
+            Check.due("its second cell", (Integer) shown.call("clusterAt", 0, column + 1), 0);
         }
-        Check.due("its second cell", (Integer) shown.call("clusterAt", 0, 2), 0);
     }
 
     /** "for each row, ascending ...; none: nothing is sent" */
@@ -253,6 +270,7 @@ public final class DrawingEdgesTest {
         blanksThatAreBlank();
         nothingBlank();
         fartherRight();
+        fartherRightFrom();
         columnZero();
         nextRow();
         placesInDecimals();

@@ -197,6 +197,19 @@ public final class KeyEdgesTest {
         Check.due("12, 5 undone, 2 made, 3 undone", s.x.state(3), 6);
     }
 
+    /** What is kept of a change that went is not taken for what a later one in its stead is. */
+    private static void changesInTurn() {
+        Sitting s = new Sitting(24, 3);
+        s.type("abcdefghijklmnop" + Sitting.RUBOUT.repeat(13) + "ABCDEFGHIJKLM");
+        Check.due("13 gone, 13 come", seen(s), "abcABCDEFGHIJKLM|");
+        s.type(Sitting.UNDO.repeat(12));
+        Check.due("12 of those that came are undone", seen(s) + s.x.state(3), "abcA|0");
+        s.type("BCD" + Sitting.RUBOUT.repeat(5) + Sitting.UNDO.repeat(4));
+        Check.due("4 of those that went are back", seen(s) + s.x.state(3), "abcABC|4");
+        s.type("x" + Sitting.HOME + Sitting.DELETE + Sitting.UNDO.repeat(3));
+        Check.due("in turn", seen(s) + s.x.state(3), "abcABCD|3");
+    }
+
     /** "26: UNDO: the latest change that was not undone is undone ... the cursor is where it was before" */
     private static void undoing() {
         seen("with nothing to undo", Sitting.UNDO, "|");
@@ -271,6 +284,7 @@ public final class KeyEdgesTest {
         cutsBothWays();
         clipsAndRoom();
         twelveChanges();
+        changesInTurn();
         undoing();
         marksLostOrKept();
         nextBeginning();

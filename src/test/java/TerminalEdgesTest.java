@@ -106,6 +106,15 @@ public final class TerminalEdgesTest {
         Check.due("a sixth does not", t.cell(0, 2), 0x306);
     }
 
+    private static void marksInOtherRows() {
+        TerminalEdgesTest t = new TerminalEdgesTest(4, 3).write("ab").moveTo(1, 2).write("c\u0301");
+        Check.due("in the second row", t.cell(1, 2), 'c' + 65536 * 2);
+        Check.due("not in the first", t.row(0), "ab  ");
+        t.write("de\u0302");
+        Check.due("behind the margin", t.cell(2, 0), 'e' + 65536 * 3);
+        Check.due("not in the row ahead", t.cell(1, 3), 'd');
+    }
+
     private static void marksAtTheMargin() {
         TerminalEdgesTest t = new TerminalEdgesTest(4, 2).write("abcd\u0301");
         Check.due("at the margin one joins", t.cell(0, 3), 'd' + 65536 * 2);
@@ -192,6 +201,7 @@ public final class TerminalEdgesTest {
         atTheMargin();
         wideWithoutTwoCells();
         marksThatJoin();
+        marksInOtherRows();
         marksAtTheMargin();
         marksThatDoNotJoin();
         halves();
