@@ -24,6 +24,10 @@ final class Inside {
         }
     }
 
+    static Inside of(Object object) {
+        return new Inside(object);
+    }
+
     Inside part(String field) {
         return new Inside(read(field));
     }

@@ -196,6 +196,19 @@ public final class TerminalEdgesTest {
         }
     }
 
+    /** Promise 10: "2 1 at the margin", where no drawing leaves the terminal; and promise 4: "not at the margin". */
+    private static void marginTold() {
+        Sitting s = new Sitting(4, 2);
+        Inside display = Inside.of(s.x).part("painter").part("display");
+        display.call("moveTo", 1, 2);
+        display.call("write", (int) 'a');
+        Check.due("ahead of the margin", s.place(), "1,3,0,0");
+        display.call("write", (int) 'b');
+        Check.due("at the margin", s.place(), "1,3,1,0");
+        s.x.size(5, 2);
+        Check.due("a new size", s.place(), "0,0,0,0");
+    }
+
     public static void main(String[] args) {
         goesOn();
         atTheMargin();
@@ -207,6 +220,7 @@ public final class TerminalEdgesTest {
         halves();
         endsOfTheMargin();
         erasing();
+        marginTold();
         Check.end();
     }
 }
