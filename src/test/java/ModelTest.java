@@ -1,22 +1,9 @@
-import java.nio.charset.StandardCharsets;
 import java.util.Random;
 
 /** Many runs of calls, the same each time, whose answers must be those of Model. */
 public final class ModelTest {
-    private static final String[] KEYS = {
-        Sitting.UP, Sitting.DOWN, Sitting.RIGHT, Sitting.LEFT, Sitting.HOME, Sitting.END, Sitting.DELETE,
-        Sitting.MARK, Sitting.CUT, Sitting.YANK, Sitting.UNDO, Sitting.RUBOUT, "\010", "\033\033", "\r", "\t"
-    };
-    private static final String[] CHARACTERS = {
-        "a", "b", " ", "~", "\u00e9", "\u00a0", "\u4e2d", "\ud55c", "\uff01", "\uff60", "\uffff", "\u2e80", "\u2e7f",
-        "\u0300", "\u0301", "\u036f", "\u0370", "\u02ff", "\t", "\r", "\r\n", "\ufffd", "   ", "\u1000", "\uf000"
-    };
-    private static final String[] RARE = {
-        Sitting.PASTE, Sitting.PASTED, Sitting.REDRAW, "\n", "\033", "\033[", "\033[2", "\033[5A", "\033[99999999999~",
-        "\033[0003~", "\033[[", "\033[;", "\033[z", "\u0085", "\001", "\037"
-    };
-
     private final Random random;
+    private final Typist typist;
     private final PaintEditor x;
     private final Model model;
     private final String run;
@@ -25,35 +12,12 @@ public final class ModelTest {
 
     private ModelTest(int seed) {
         random = new Random(seed);
+        typist = new Typist(random);
         run = "run " + seed + ": ";
         columns = random.nextInt(5) == 0 ? random.nextInt(30) - 2 : 4 + random.nextInt(random.nextBoolean() ? 5 : 21);
         rows = random.nextInt(5) == 0 ? random.nextInt(14) - 2 : 2 + random.nextInt(7);
         x = new PaintEditor(columns, rows);
         model = new Model(columns, rows);
-    }
-
-    private String pick(String[] from) {
-        return from[random.nextInt(from.length)];
-    }
-
-    private byte[] somethingTyped(int taste) {
-        int kind = random.nextInt(20);
-        if (kind < taste) {
-            StringBuilder made = new StringBuilder();
-            for (int i = random.nextInt(4); i >= 0; i--) {
-                made.append(pick(CHARACTERS));
-            }
-            return made.toString().getBytes(StandardCharsets.UTF_8);
-        }
-        if (kind < 18) {
-            return pick(KEYS).getBytes(StandardCharsets.UTF_8);
-        }
-        if (kind < 19) {
-            return pick(RARE).getBytes(StandardCharsets.UTF_8);
-        }
-        byte[] wild = new byte[1 + random.nextInt(4)];
-        random.nextBytes(wild);
-        return wild;
     }
 
     private void type(byte[] bytes) {
@@ -104,7 +68,7 @@ public final class ModelTest {
         for (int step = 0; step < 120 && Check.wrong() == 0; step++) {
             int kind = random.nextInt(40);
             if (kind < 26) {
-                type(somethingTyped(taste));
+                type(typist.somethingTyped(taste));
             } else if (kind < 36) {
                 draw();
             } else if (kind < 37) {
