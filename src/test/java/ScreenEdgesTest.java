@@ -18,6 +18,25 @@ public final class ScreenEdgesTest {
         }
     }
 
+    /** The same of a screen that becomes small, where the cursor was elsewhere in the drawing ahead. */
+    private static void screensThatBecomeSmall() {
+        int[][] small = {{3, 8}, {24, 1}, {1, 1}};
+        for (int[] size : small) {
+            Sitting s = new Sitting(6, 5);
+            s.type("a\rb\rcd");
+            s.draw();
+            Check.due("the place ahead", s.place(), "2,2,0,1");
+            s.x.size(size[0], size[1]);
+            String told = size[0] + " columns and " + size[1] + " rows: ";
+            Check.due(told + "nothing but a blank screen is sent", s.draw(), "^[0m^[2J");
+            Check.due(told + "the place", s.place(), "0,0,0,0");
+            Check.due(told + "the next drawing", s.draw(), "");
+            s.x.size(6, 5);
+            s.draw();
+            Check.due(told + "the place behind", s.place(), "2,2,0,1");
+        }
+    }
+
     /** The rows 0 .. H - 2 show the layout's rows from TOP on, "BLANK behind the last one". */
     private static void rowsShown() {
         Sitting s = new Sitting(4, 4);
@@ -170,6 +189,7 @@ public final class ScreenEdgesTest {
 
     public static void main(String[] args) {
         smallScreens();
+        screensThatBecomeSmall();
         rowsShown();
         top();
         topOfBlankScreens();
